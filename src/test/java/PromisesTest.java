@@ -215,6 +215,18 @@ public final class PromisesTest {
     }
   }
 
+  /** Turns at the greatest nodes, which are the first to be mixed up where turns are packed. */
+  private static void promise6UnlikeTurns() {
+    int[][] turns = {{0, 1, 299}, {0, 2, 0}, {0, 299, 1}, {1, 0, 1}, {298, 299, 298}, {299, 298, 299}, {299, 0, 299}};
+    RoadTurns x = sized(300);
+    for (int i = 0; i < turns.length; i++) {
+      due("6: unlike turn " + i, x.bar(turns[i][0], turns[i][1], turns[i][2], true), i + 1);
+    }
+    for (int i = 0; i < turns.length; i++) {
+      due("6: free unlike turn " + i, x.bar(turns[i][0], turns[i][1], turns[i][2], false), turns.length - 1 - i);
+    }
+  }
+
   private static void promise7Route() {
     RoadTurns x = sized(6);
     x.road(0, 5, 10);
@@ -367,6 +379,7 @@ public final class PromisesTest {
     promise5Cost();
     promise6Bar();
     promise6MostTurns();
+    promise6UnlikeTurns();
     promise7Route();
     promise7LeastRow();
     promise7Detours();
