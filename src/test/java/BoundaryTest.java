@@ -228,6 +228,12 @@ public final class BoundaryTest {
     dueRoute(x, 0, 2, 2, 0, 1, 2);
     dueRoute(x, 3, 0, 3, 3, 2, 1, 0);
     due("within(3, ..)", x.within(3, Long.MAX_VALUE), 4);
+    // From node 1 on, both rows are alike in cost and roads, and the lesser is behind the barred turn.
+    RoadTurns fork = net(5, 0, 1, 1, 1, 2, 1, 1, 3, 1, 2, 4, 1, 3, 4, 1);
+    fork.bar(0, 1, 2, true);
+    dueRoute(fork, 0, 4, 3, 0, 1, 3, 4);
+    dueRoute(fork, 1, 4, 2, 1, 2, 4);
+    dueRoute(fork, 4, 0, 3, 4, 2, 1, 0);
   }
 
   private static void atMost200Barred() {
